@@ -1755,14 +1755,15 @@ public final class GuiltyShave {
 
         /** How many SETS fit; what cases they are is kept. */
         private int gatherCases(int person) {
-            Arrays.fill(setsOfCase, 0);
             int end = 1 << town.deeds;
+            int beyond = (town.weightOf(end - 1) + 1) * COUNTS;
+            Arrays.fill(setsOfCase, 0);
             for (int bits = 0; bits < end; bits++) {
                 setsOfCase[town.weightOf(bits) * COUNTS + Integer.bitCount(bits)]++;
             }
             int fitting = 0;
             caseCount = 0;
-            for (int i = 0; i < CASES; i++) {
+            for (int i = 0; i < beyond; i++) {
                 if (setsOfCase[i] > 0 && fits(person, i / COUNTS, i % COUNTS)) {
                     cases[caseCount] = i;
                     caseCount++;
