@@ -1107,7 +1107,7 @@ public final class GuiltyShave {
         static final int SHAVED = 5;
         static final int LETTER_COUNT = 6;
 
-        // The signs that join, in the order of their numbers from OR on.
+        // The signs that join, in the order of their numbers from OR on; / is the last of them.
         static final String JOINTS = "|&!=<>+-*/";
         static final int OR = 6;
         static final int AND = 7;
@@ -1118,7 +1118,6 @@ public final class GuiltyShave {
         static final int PLUS = 12;
         static final int MINUS = 13;
         static final int TIMES = 14;
-        static final int BY = 15;
         static final int NUMBER = 16;
 
         // The shortest CLAUSE with its ; has four bytes.

@@ -105,6 +105,14 @@ public final class PromiseTest {
         due("229 and 11", x.feed(0x20202020, 0x20202020, 0x20202000, 0, 0), 240);
         due("240 and 1", x.feed(0, 0, 0, 0, 1), NONE);
         due("240 and 0", x.feed(0, 0, 0, 0, 0), 240);
+        for (int word = 0; word < 5; word++) {
+            x.end(238);
+            int[] w = new int[5];
+            w[word] = 0x20002020;
+            due("238 and 3, in number " + word, x.feed(w[0], w[1], w[2], w[3], w[4]), NONE);
+            w[word] = 0x20000020;
+            due("238 and 2, in number " + word, x.feed(w[0], w[1], w[2], w[3], w[4]), 240);
+        }
     }
 
     private static void end() {
@@ -129,7 +137,7 @@ public final class PromiseTest {
             {"sn9c99;p;d", NONE}, {"sn10;p;d", 3}, {"sn100;p;d", 4}, {"sc100;p;d", 4}, {"sn1n1;p;d", 3}, {"sb1", 1},
             {"sn 1 c 2;p;d", NONE}, {"sn1 2;p;d", 4}, {"pb00s0w6;d", NONE}, {"pw7;d", 2}, {"pw07;d", 3}, {"pw70;d", 3},
             {"pw06;d", NONE}, {"pw700;d", 4}, {"pb99;d", NONE}, {"ps9;d", NONE}, {"ps10;d", 3}, {"pk1;d", 1},
-            {"dk0;p", 2}, {"dk00;p", 3}, {"dk05;p", NONE}, {"dk000;p", 4}, {"dk9h9l9;p", NONE}, {"dl0;p", 2}, {"dh0;p", NONE},
+            {"sn0c0;p;d", NONE}, {"sn001;p;d", 4}, {"dk10;p", 3}, {"dl10;p", 3}, {"dk0;p", 2}, {"dk00;p", 3}, {"dk05;p", NONE}, {"dk000;p", 4}, {"dk9h9l9;p", NONE}, {"dl0;p", 2}, {"dh0;p", NONE},
             {"dh10;p", 3}, {"dk1h1k1;p", 5}, {"p;d\u0001", 3}, {"p;d\u00ff", 3}, {"P;d", 0}, {"pb", 2}, {"pb ;d", 3},
             {repeated("p;", 6) + "d", NONE}, {repeated("p;", 7) + "d", 12}, {repeated("d;", 8) + "p", NONE},
             {repeated("d;", 9) + "p", 16}, {"s;" + repeated("p;", 6) + repeated("d;", 7) + "d", NONE},
@@ -137,7 +145,7 @@ public final class PromiseTest {
         };
         Object[][] laws = {
             {"", 0}, {"y", 1}, {"y:", 2}, {"y:g", NONE}, {" y : g ", NONE}, {"y:g;", 4}, {"y:g;y:s", NONE}, {"x:g", 0}, {"y;g", 1},
-            {"y:x", 2}, {"y:9999", NONE}, {"y:12345", 6}, {"y:1 2", 4}, {"y:g+", 4}, {"y:g+-1", 4}, {"y:-1", 2}, {"y:g>1", 5},
+            {"y:x", 2}, {"y:9999", NONE}, {"y:12345", 6}, {"y:00001", 6}, {"y:123456", 6}, {"y:1 2", 4}, {"y:g+", 4}, {"y:g+-1", 4}, {"y:-1", 2}, {"y:g>1", 5},
             {"y:g>1;y:g", 5}, {"y:g>1?", 6}, {"y:g>1?s", NONE}, {"y:g?s", 3}, {"y:g&s", 3}, {"y:g>1>2?s", 5}, {"y:g>1&s?1", 7},
             {"y:g>1&s<2|n=3?t", NONE}, {"y:(g>1)?1", NONE}, {"y:(g)?1", 4}, {"y:(g>1", 6}, {"y:(g>1]", 6}, {"y:[g>1]", 4},
             {"y:[g+1]*2>w?b/0", NONE}, {"y:g>1?(s)", 6}, {"y:g>1?!s", 6}, {"y:g>1?s>1", 7}, {"y:!g", 4}, {"y:!g=1?1", NONE},
@@ -194,9 +202,16 @@ public final class PromiseTest {
         due("no image of this town", x.back(), NONE);
         due("nothing to undo", x.undo(), NONE);
         due("no log", x.log(0, 0), NONE);
+        x.law(NONE);
+        x.shave(0);
+        due("a nick costs 1, if it is not told", x.count(7), 6);
         x.commit(0, 0);
         due("a refused town", Texts.tell(x, 0, "p"), NONE);
         due("leaves the old one", x.owners(0), 1);
+        Texts.tell(x, 0, "sn9c3;p;d");
+        due("coins as told", x.count(7), 3);
+        Texts.tell(x, 0, "p;d");
+        due("twenty coins, if they are not told", x.count(7), 20);
     }
 
     private static void person() {
@@ -338,6 +353,9 @@ public final class PromiseTest {
         x.commit(0, 1);
         due("no coin", x.sell(1, 0, 1), NONE);
         due("no harm by a sale", x.count(8), 8);
+        x = town("p;p;dl1");
+        x.commit(0, 0);
+        due("with one day left", x.sell(0, 1, 0), 1);
     }
 
     private static void atone() {
@@ -354,6 +372,11 @@ public final class PromiseTest {
         due("one coin is too few", x.atone(0, 1), NONE);
         x.give(1);
         due("two are enough", x.atone(0, 1), 0);
+        due("an act", x.undo(), 4);
+        due("which is undone", x.left(0, 1), 5);
+        x = town("p;dl1");
+        x.commit(0, 0);
+        due("with one day left", x.atone(0, 0), 0);
     }
 
     private static void shave() {
@@ -374,6 +397,38 @@ public final class PromiseTest {
         x.day();
         due("again", x.shave(0), 0);
         due("no less than no coins", x.count(7), 0);
+        timesHaveABound();
+    }
+
+    /** A week of eight days on which one goes each day: 125 of them are a thousand times, on days 0 to 999. */
+    private static void timesHaveABound() {
+        GuiltyShave x = town("p;p;d");
+        hold(x, "y:s");
+        Texts.tell(x, 2, "s0;n" + repeated(";s0;n", 7));
+        for (int i = 0; i < 124; i++) {
+            due("a week", x.perform(0), 16);
+        }
+        due("a week", x.perform(0), 15);
+        due("day", x.count(6), 999);
+        due("a thousand times shaved are 999", personOf(x, 0, 3), 999);
+        x.undo();
+        due("the one ahead were 999", personOf(x, 0, 3), 999);
+        x.undo();
+        due("the day ahead", personOf(x, 0, 3), 999);
+        x.undo();
+        due("and 998", personOf(x, 0, 3), 998);
+        x = town("p;p;p;p;p;p;d");
+        Texts.tell(x, 2, "s0;s1;s2;s3;s4;s5;n");
+        for (int i = 0; i < 166; i++) {
+            due("six nicks", x.perform(0), 7);
+        }
+        due("nicks", x.count(9), 996);
+        x.shave(0);
+        x.shave(1);
+        x.shave(2);
+        due("nicks", x.count(9), 999);
+        due("still a nick", x.shave(3), 0);
+        due("no more than 999", x.count(9), 999);
     }
 
     private static void give() {
@@ -596,6 +651,11 @@ public final class PromiseTest {
         due("guilt", x.skin(0, 0), 9);
         due("read", x.skin(0, 1), 2);
         due("guilty", x.skin(0, 2), 1);
+        hold(x, "y:0");
+        due("not guilty", x.skin(0, 2), 0);
+        hold(x, "y:0-1");
+        due("not guilty", x.skin(0, 2), 0);
+        x.law(NONE);
         due("skin(1, 0)", x.skin(1, 0), HIDDEN);
         due("skin(-1, 0)", x.skin(-1, 0), HIDDEN);
         due("skin(0, 3)", x.skin(0, 3), HIDDEN);
@@ -622,7 +682,9 @@ public final class PromiseTest {
             {"y:[0-7]/2", -3}, {"y:7/[0-2]", -3}, {"y:7/0", 0}, {"y:9999*9999/9999", 99}, {"y:9999*9999/9999-70", 30},
             {"y:9999*9999-9999*9999", 0}, {"y:9999*101-9999*100", 99}, {"y:[0-9999]*9999/9999+150", 50},
             {"y:9999*9999+5-9999*9999", 0}, {"y:9999*9999-5-9999*9999", -5},
-            {"y:g>10?5;y:6", 5}, {"y:g>11?5;y:6", 6}, {"y:g>11?5", 0}, {"y:g<12?5", 5}, {"y:g=11?5", 5},
+            {"y:9999*9999-9999*100-100", 0}, {"y:9999*9999-9999*100-99", 1}, {"y:0-9999*9999+9999*100+101", 1},
+            {"y:[0-9999]*9999+9999*100+100", 0}, {"y:[0-9999]*9999-1+9999*100+100", 0}, {"y:9999*9999+1-9999*100-100", 0},
+            {"y:g<11?5;y:6", 6}, {"y:g<12?1;y:2", 1}, {"y:g>9&g<12&g=11?1", 1}, {"y:g>10?5;y:6", 5}, {"y:g>11?5;y:6", 6}, {"y:g>11?5", 0}, {"y:g<12?5", 5}, {"y:g=11?5", 5},
             {"y:!g=11?5;y:6", 6}, {"y:!!g=11?5;y:6", 5}, {"y:g=1|g=11?5;y:6", 5}, {"y:g=1&g=11|b=2?5;y:6", 5},
             {"y:b=2|g=1&g=2?5;y:6", 5}, {"y:(b=2|g=1)&g=2?5;y:6", 6}, {"y:!g=1&g=11?5;y:6", 5}, {"y:!(g=1|g=11)?5;y:6", 6},
             {"y:g=1?1;y:g=2?2;y:g=11?3;y:4", 3}, {"y:g+1>s*1?n+t", 3}, {"y:[g-1]/[s-2]=2?w", 2},
@@ -791,6 +853,16 @@ public final class PromiseTest {
         due("ask(-1)", x.ask(-1), NONE);
         hold(x, "y:g+96-b-b/99*9");
         due("near the end of the beards", x.ask(1), 98);
+        x = town("p;d");
+        hold(x, "y:b/99*n");
+        due("the longest beard", x.ask(0), 99);
+        hold(x, "y:b=1?n*t;y:b=2?n*w;y:b=3?n");
+        due("on day 0, never shaved", x.ask(0), 3);
+        x = town("p" + repeated(";dk9", 8));
+        hold(x, "y:n=8&b=5?1");
+        due("all eight, of 256", x.ask(0), 5);
+        hold(x, "y:g=72&b=7|n=0&b=9?1");
+        due("of several the least", x.ask(0), 7);
     }
 
     private static void game() {
@@ -933,6 +1005,16 @@ public final class PromiseTest {
         due("innocent", x.all(8), 2);
         due("served: 1 no more", x.all(9), 2);
         due("all(10)", x.all(10), NONE);
+        GuiltyShave y = town("p;dh2;dk4h1;dk3h0;dk5");
+        due("heaviest of more deeds than people", y.all(4), 3);
+        due("cheapest of them", y.all(5), 2);
+        y = town("p;p;ps1b2;d");
+        due("longest of more people than deeds", y.all(0), 2);
+        due("boldest of them", y.all(2), 2);
+        due("heaviest", y.all(4), 0);
+        hold(y, "y:1");
+        y.shave(2);
+        due("favourite", y.all(3), 2);
         due("all(-1)", x.all(-1), NONE);
     }
 
