@@ -1290,7 +1290,7 @@ public final class GuiltyShave {
             if (level == UNIT) {
                 return readsUnit(within, begun);
             }
-            if (level == ATOM) {
+            if (level >= ATOM) {
                 return readsAtom(within);
             }
             if (!readsJoined(level + 1, within, begun)) {

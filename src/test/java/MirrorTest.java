@@ -1,7 +1,10 @@
 import java.util.NoSuchElementException;
 import java.util.Random;
 
-/** Runs of calls by chance (always the same ones) on a GuiltyShave and on the Mirror: each answer is compared. */
+/**
+ * Runs of calls by chance (always the same ones) on a GuiltyShave and on the Mirror: each answer is compared.
+ * Two numbers behind the name: the first run and how many, for a longer look by hand.
+ */
 public final class MirrorTest {
     private static final int RUNS = 600;
     private static final int CALLS = 500;
@@ -21,7 +24,9 @@ public final class MirrorTest {
     }
 
     public static void main(String[] args) {
-        for (int run = 0; run < RUNS && wrong == 0; run++) {
+        int first = args.length > 1 ? Integer.parseInt(args[0]) : 0;
+        int runs = args.length > 1 ? Integer.parseInt(args[1]) : RUNS;
+        for (int run = first; run < first + runs && wrong == 0; run++) {
             new MirrorTest(run).play();
         }
         for (int i = 1; i < 41; i++) {
