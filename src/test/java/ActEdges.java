@@ -12,6 +12,7 @@ final class ActEdges {
 
     static void tell(Edges e) {
         lasting(e);
+        fullTown(e);
         reading(e);
         guilty(e);
         doing(e);
@@ -71,6 +72,49 @@ final class ActEdges {
         }
         e.due("all eight", x.skin(0, 0), 72);
         e.due("the other", x.skin(1, 0), 0);
+    }
+
+    /** Six people and eight deeds: each has his own, and nothing runs over into what is another's. */
+    private static void fullTown(Edges e) {
+        e.sentence("A PERSON who did a DEED HAS it");
+        GuiltyShave x = Edges.made("pb1;pb2;pb3;pb4;pb5;pb6" + ";dl9h1".repeat(8));
+        Edges.hold(x, "y:1");
+        for (int i = 0; i < 48; i++) {
+            for (int j = 0; j < 48; j += i < 47 ? 48 : 1) {
+                int due = j < i ? 9 : 0;
+                e.due("left(" + j / 8 + ", " + j % 8 + ") behind " + i, x.left(j / 8, j % 8), due);
+            }
+            e.due("commit(" + i / 8 + ", " + i % 8 + ")", x.commit(i / 8, i % 8), 3 * (i % 8 + 1));
+        }
+        for (int p = 0; p < 6; p++) {
+            e.due("beard", x.person(p, 0), p + 1);
+            e.due("shave(" + p + ")", x.shave(p), 1);
+            e.due("once", x.person(p, 3), 1);
+        }
+        for (int day = 1; day <= 9; day++) {
+            e.due("clean", x.clean(), 10 - day);
+            e.due("all were smooth on the first day", x.day(), day == 1 ? 6 : 0);
+            e.due("who was shaved", x.log(0, 1), day == 1 ? 63 : 0);
+            for (int i = 0; i < 48; i++) {
+                e.due("left(" + i / 8 + ", " + i % 8 + ") on day " + day, x.left(i / 8, i % 8), 9 - day);
+            }
+            e.due("guilt of the last", x.skin(5, 0), day < 9 ? 24 : 0);
+        }
+        e.due("clean", x.clean(), 0);
+        x.shave(5);
+        x.shave(1);
+        e.due("clean, though two went", x.clean(), 0);
+        int[] times = {1, 2, 1, 1, 1, 2};
+        for (int p = 0; p < 6; p++) {
+            e.due("how often " + p, x.person(p, 3), times[p]);
+            e.due("his beard", x.person(p, 0), times[p] == 2 ? 0 : 9);
+            e.due("he went", x.person(p, 4), times[p] - 1);
+        }
+        Edges.hold(x, "y:n");
+        x.commit(5, 0);
+        e.due("n of the first, who has none", x.skin(0, 1), 0);
+        e.due("n of the one ahead of the last", x.skin(4, 1), 0);
+        e.due("n of the last", x.skin(5, 1), 1);
     }
 
     private static void reading(Edges e) {

@@ -80,6 +80,7 @@ final class QuestionEdges {
         leastIs(e, "guilty already", Edges.both(has, x -> x.commit(0, 1)), 0, 0);
         leastIs(e, "guilty by a law already", lawful("p;d", "y:1"), 0, 0);
         leastIs(e, "never guilty", lawful("p;d", "y:0"), NONE, NONE);
+        leastIs(e, "the only one", lawful("p;dh5", "y:n=1?1"), 1, 5);
         leastIs(e, "just two", lawful("p;dh5;dh4;dh3", "y:n=2?1"), 6, 7);
         Edges.Story two = Edges.both(lawful("p;dh5;dh4;dh3", "y:n=1?1"), x -> {
             x.commit(0, 0);
@@ -273,6 +274,26 @@ final class QuestionEdges {
         Edges.Story one = Edges.both(four, x -> x.seen(0, 6, true));
         e.leaves("one is left", one, x -> x.ask(0), 0);
         e.leaves("nothing fits", Edges.both(one, x -> x.seen(0, 6, false)), x -> x.ask(0), NONE);
+        String eight = "p" + ";dk9".repeat(8);
+        e.leaves("all eight by their number", lawful(eight, "y:n=8&b=5?1"), x -> x.ask(0), 5);
+        e.leaves("all eight by their guilt", lawful(eight, "y:g=72&b=6?1"), x -> x.ask(0), 6);
+        e.leaves("seven of eight", lawful(eight, "y:n=7&b=7?1;y:n=8&b=6?1"), x -> x.ask(0), 7);
+        e.leaves("none of eight", lawful(eight, "y:n=0&b=8?1"), x -> x.ask(0), 8);
+        e.leaves("more than three of eight", lawful(eight, "y:b=2&n>4?1;y:b=3&n>3?1;y:b=4&n>2?1"), x -> x.ask(0), 2);
+        Edges.Story some = Edges.both(lawful("p;dk1;dk1;dk1", "y:b=9?n;y:n=3&b=4?1;y:n=0&b=3?1"), x -> x.seen(0, 9, true));
+        e.leaves("what does not fit does not count", some, x -> x.ask(0), 4);
+        Edges.Story pairs = Edges.both(lawful("p;dk1;dk2;dk4", "y:b=9&n=2?1;y:b=5&g=3?1"), x -> x.seen(0, 9, true));
+        e.leaves("one of three pairs", pairs, x -> x.ask(0), 5);
+        Edges.Story again = Edges.both(lawful("p;dk1;dk2;dk4", "y:b=9?4-g;y:b=3&g=4?1;y:b=4&g=1?1"), x -> {
+            x.ask(0);
+            x.seen(0, 9, true);
+        });
+        e.leaves("what was asked before does not count", again, x -> x.ask(0), 4);
+        Edges.Story another = Edges.both(lawful("p;dk1;dk1;dk1;dk9", "y:b=1&g>2?1;y:b=2&g>1?1"), x -> {
+            x.ask(0);
+            Texts.tell(x, 0, "p;dk3;dk4");
+        });
+        e.leaves("nothing stays of another town's", another, x -> x.ask(0), 1);
         e.leaves("on day 0, never shaved", Edges.both(lawful("p;d", "y:b=1?n*w;y:b=2?n*t;y:b=3?n"), x -> {
             x.commit(0, 0);
             x.day();
@@ -371,6 +392,8 @@ final class QuestionEdges {
         for (int i : new int[] {DEEP, -3, -2, 2, 12, FAR}) {
             e.leaves("rests(0, " + i + ")", two, x -> x.rests(0, i), NONE);
         }
+        Edges.Story fooled = Edges.both(lawful("p;dk4", "y:g=6|g=3|g=0?1"), x -> x.commit(0, 0));
+        e.leaves("a pretence that no look finds out", fooled, x -> x.rests(0, NONE) * 100 + x.rests(0, 0), 110);
         for (int guilt = 1; guilt <= 9; guilt++) {
             for (int want = 0; want <= 15; want++) {
                 GuiltyShave x = Edges.made("p;dk" + guilt);

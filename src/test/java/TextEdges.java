@@ -32,6 +32,7 @@ final class TextEdges {
         end(e);
         fault(e);
         text(e);
+        textBehindAnother(e);
         law(e);
         step(e);
     }
@@ -360,6 +361,10 @@ final class TextEdges {
         readsTo(e, "y:(s=3|s=4)&s=5?4", 0);
         readsTo(e, "y:!s=3&s=3?4", 0);
         readsTo(e, "y:!s=4&s=3?4", 4);
+        readsTo(e, "y:s<4&s=3&s>2?4", 4);
+        readsTo(e, "y:!s<4?4;y:5", 5);
+        readsTo(e, "y:!s>2?4;y:5", 5);
+        readsTo(e, "y:!s>3?4;y:5", 4);
         readsTo(e, "y:0;".repeat(59) + "y:7", 0);
         readsTo(e, "y:g>9?1;".repeat(29) + "y:7", 7);
     }
@@ -459,6 +464,8 @@ final class TextEdges {
         e.faulty(0, "p;dk", 4);
         e.faulty(0, "p;dk ", 5);
         e.fits(0, "p;dk1");
+        e.faulty(0, "p;d;pb", 6);
+        e.faulty(0, "p;d;sn1c ", 9);
         e.faulty(0, "x", 0);
         e.faulty(0, "p;d\u0001", 3);
         e.faulty(0, "p;d\u00ff", 3);
@@ -632,6 +639,47 @@ final class TextEdges {
         Edges.Story same = Edges.both(Edges::busy, x -> Texts.tell(x, 0, Edges.TOWN));
         e.leaves("the same town told again is another one", same, x -> x.back(), NONE);
         e.answers("with its beards as told", same, x -> x.person(0, 0) * 100 + x.person(1, 0) * 10 + x.person(2, 0), 409);
+    }
+
+    /** What was refused, or only looked at, leaves nothing in the text that is told then. */
+    private static void textBehindAnother(Edges e) {
+        String[] towns = {"sn9c99;pb9s9w6;pb9s9w6;dk9h9l9;dk9h9l9;x", "sn9c99;pb9s9w6;pb9s9w6;dk9h9l9;dk9h9l9"};
+        String[] laws = {"y:n=0?9;y:8;x", "y:n=0?9;y:8", "y:0-9+[1*2]-3;".repeat(17) + "x"};
+        String[] weeks = {"d98;a76;s5;d43;x", "d98;a76;s5;d43"};
+        for (String other : towns) {
+            GuiltyShave x = lookedAt(0, other);
+            e.due("a town behind '" + other + "'", Texts.tell(x, 0, "p;d"), 1);
+            e.due("its person", x.person(0, 0) * 100 + x.person(0, 1) * 10 + x.person(0, 2), 30);
+            e.due("its deed", x.deed(0, 0) * 100 + x.deed(0, 1) * 10 + x.deed(0, 2), 325);
+            e.due("its coins", x.count(7), 20);
+            e.due("its nick", costOfNick(x), 1);
+            e.due("no more of them", x.count(0) * 10 + x.count(1), 11);
+        }
+        for (String other : laws) {
+            GuiltyShave x = lookedAt(1, other);
+            Texts.tell(x, 0, "p;d");
+            e.due("a law behind '" + other + "'", Texts.tell(x, 1, "y:n=1?7"), 0);
+            e.due("it holds", Edges.bit(x.law(0)), 1);
+            e.due("it reads nothing", x.skin(0, 1), 0);
+            x.commit(0, 0);
+            e.due("it reads its own", x.skin(0, 1), 7);
+        }
+        for (String other : weeks) {
+            GuiltyShave x = lookedAt(2, other);
+            e.due("a week behind '" + other + "'", Texts.tell(x, 2, "n;s4;n"), 0);
+            int[] due = {3, NONE, NONE, 1, 4, NONE, 3, NONE, NONE, HIDDEN};
+            for (int i = 0; i < due.length; i++) {
+                e.due("step(0, " + i / 3 + ", " + i % 3 + ")", x.step(0, i / 3, i % 3), due[i]);
+            }
+        }
+    }
+
+    private static GuiltyShave lookedAt(int sort, String text) {
+        GuiltyShave x = new GuiltyShave();
+        Texts.feed(x, text);
+        x.fault(sort);
+        x.fault(sort);
+        return x;
     }
 
     private static void law(Edges e) {
