@@ -95,7 +95,7 @@ final class ActEdges {
             e.due("clean", x.clean(), 10 - day);
             e.due("all were smooth on the first day", x.day(), day == 1 ? 6 : 0);
             e.due("who was shaved", x.log(0, 1), day == 1 ? 63 : 0);
-            for (int i = 0; i < 48; i++) {
+            for (int i = 0; i < 48 && (day == 1 || day > 7); i++) {
                 e.due("left(" + i / 8 + ", " + i % 8 + ") on day " + day, x.left(i / 8, i % 8), 9 - day);
             }
             e.due("guilt of the last", x.skin(5, 0), day < 9 ? 24 : 0);

@@ -644,7 +644,7 @@ final class TextEdges {
     /** What was refused, or only looked at, leaves nothing in the text that is told then. */
     private static void textBehindAnother(Edges e) {
         String[] towns = {"sn9c99;pb9s9w6;pb9s9w6;dk9h9l9;dk9h9l9;x", "sn9c99;pb9s9w6;pb9s9w6;dk9h9l9;dk9h9l9"};
-        String[] laws = {"y:n=0?9;y:8;x", "y:n=0?9;y:8", "y:0-9+[1*2]-3;".repeat(17) + "x"};
+        String[] laws = {"y:n=0?9;y:8;x", "y:n=0?9;y:8", "y:1;y:8", "y:0-9+[1*2]-3;".repeat(17) + "x"};
         String[] weeks = {"d98;a76;s5;d43;x", "d98;a76;s5;d43"};
         for (String other : towns) {
             GuiltyShave x = lookedAt(0, other);
@@ -664,6 +664,10 @@ final class TextEdges {
             x.commit(0, 0);
             e.due("it reads its own", x.skin(0, 1), 7);
         }
+        GuiltyShave sum = lookedAt(1, "y:!g=1?1");
+        Texts.tell(sum, 0, "p;d");
+        Edges.hold(sum, "y:1+2");
+        e.due("a sum behind a condition", sum.skin(0, 1), 3);
         for (String other : weeks) {
             GuiltyShave x = lookedAt(2, other);
             e.due("a week behind '" + other + "'", Texts.tell(x, 2, "n;s4;n"), 0);
